@@ -932,20 +932,33 @@ public final class ThreeValues {
 
         private int enforce(Rule rule, Structure s) {
             int n = s.individuals;
-            boolean anySecond = rule.predicate < FIRST_OF_TWO_PLACES && (formulas[rule.formula].unbound & 2) == 0;
-            int seconds = anySecond ? Math.min(1, n) : n;
+            int unbound = formulas[rule.formula].unbound;
             int outcome = NOTHING;
+            int holds = 0;
+            int seenFor = -1;
             for (int u = 0; u < n; u++) {
-                for (int w = 0; w < seconds; w++) {
-                    if (s.at(rule.predicate, u, w) != rule.due && evaluator.evaluate(s, rule.formula, u, w) == 1) {
-                        if (!makeDue(rule, s, u, w)) {
+                for (int w = 0; w < n; w++) {
+                    if (s.at(rule.predicate, u, w) != rule.due) {
+                        if (isStale(unbound, seenFor, u)) {
+                            holds = evaluator.evaluate(s, rule.formula, u, w);
+                            seenFor = u;
+                        }
+                        if (holds == 1 && !makeDue(rule, s, u, w)) {
                             return IMPOSSIBLE;
                         }
-                        outcome = CHANGED;
+                        outcome = holds == 1 ? CHANGED : outcome;
                     }
                 }
             }
             return outcome;
+        }
+
+        /**
+         * A value that another w, or another u, would not alter is not looked for again. One that a change
+         * has made 1 since then is met in the next turn.
+         */
+        private static boolean isStale(int unbound, int seenFor, int u) {
+            return seenFor < 0 || (unbound & 2) != 0 || (unbound & 1) != 0 && seenFor != u;
         }
 
         private static boolean makeDue(Rule rule, Structure s, int u, int w) {
@@ -1042,12 +1055,17 @@ public final class ThreeValues {
             return true;
         }
 
+        /** Leaves each structure as the one in which each HALF has become 0, and adds the others. */
         private boolean focusAll(Edge edge) {
             // What is added on the way is focused in its turn.
             for (int i = 0; i < work.count; i++) {
-                int pivot = edge.focus < FIRST_OF_TWO_PLACES ? 0 : pivotOf(work.all[i], edge.along);
-                if (pivot >= 0 && !focusOne(work.all[i], edge.focus, pivot)) {
-                    return false;
+                Structure s = work.all[i];
+                int pivot = edge.focus < FIRST_OF_TWO_PLACES ? 0 : pivotOf(s, edge.along);
+                for (int x = 0; x < s.individuals && pivot >= 0; x++) {
+                    boolean half = s.row[focusCell(edge.focus, pivot, x)] == HALF;
+                    if (half && !branch(s, edge.focus, pivot, x)) {
+                        return false;
+                    }
                 }
             }
             return true;
@@ -1060,16 +1078,6 @@ public final class ThreeValues {
                 }
             }
             return -1;
-        }
-
-        /** Leaves s as the one in which each HALF has become 0; the others are added to work. */
-        private boolean focusOne(Structure s, int p, int pivot) {
-            for (int x = 0; x < s.individuals; x++) {
-                if (s.row[focusCell(p, pivot, x)] == HALF && !branch(s, p, pivot, x)) {
-                    return false;
-                }
-            }
-            return true;
         }
 
         private static int focusCell(int p, int pivot, int x) {
