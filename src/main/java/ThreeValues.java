@@ -505,7 +505,7 @@ public final class ThreeValues {
         }
     }
 
-    /** What a kind does not need is kept as 0, so that it can be used as an index unseen. */
+    /** Its parts c and d are numbers of formulas that were made before it. */
     private static final class Formula {
         int kind = CONSTANT;
         int a = 0;
@@ -568,36 +568,31 @@ public final class ThreeValues {
             Formula made = all[count];
             made.kind = kind;
             made.a = a;
-            if (kind == HOLDS) {
-                made.b = a < FIRST_OF_ONE_PLACE ? 0 : b;
-                made.c = a < FIRST_OF_TWO_PLACES ? 0 : c;
+            // The evaluator looks both variables up, also those that a predicate does not need.
+            made.b = kind == HOLDS && a < FIRST_OF_ONE_PLACE ? 0 : b;
+            made.c = kind == HOLDS && a < FIRST_OF_TWO_PLACES ? 0 : c;
+            made.d = d;
+            if (kind <= EQUAL) {
                 made.unbound = variablesOf(made);
             } else {
-                made.b = kind == EQUAL || kind == CLOSURE ? b : 0;
-                made.c = kind == CONSTANT ? 0 : c;
-                made.d = kind == AND || kind == OR ? d : 0;
-                addParts(made);
+                takeFromParts(made);
             }
             count++;
             return count - 1;
         }
 
-        private static int variablesOf(Formula holds) {
-            if (holds.a < FIRST_OF_ONE_PLACE) {
+        private static int variablesOf(Formula leaf) {
+            if (leaf.kind == CONSTANT || leaf.kind == HOLDS && leaf.a < FIRST_OF_ONE_PLACE) {
                 return NO_VARIABLES;
             }
-            return holds.a < FIRST_OF_TWO_PLACES ? 1 << holds.b : 1 << holds.b | 1 << holds.c;
+            if (leaf.kind == HOLDS && leaf.a < FIRST_OF_TWO_PLACES) {
+                return 1 << leaf.b;
+            }
+            return 1 << leaf.b | 1 << leaf.c;
         }
 
-        /** Depth, free variables and closures of a kind other than HOLDS. */
-        private void addParts(Formula made) {
-            if (made.kind == CONSTANT) {
-                return;
-            }
-            if (made.kind == EQUAL) {
-                made.unbound = 1 << made.b | 1 << made.c;
-                return;
-            }
+        /** Depth, free variables and closures. */
+        private void takeFromParts(Formula made) {
             Formula part = all[made.c];
             made.depth = part.depth + 1;
             made.unbound = part.unbound;
