@@ -617,7 +617,7 @@ public final class ThreeValues {
         private final int[] variables = new int[VARIABLES];
         // One row is enough, as no closure stands within a closure.
         private final int[] reached = new int[MOST_INDIVIDUALS];
-        private Structure structure = null;
+        private Structure structure = new Structure();
 
         Evaluator(Formula[] formulas) {
             this.formulas = formulas;
@@ -811,8 +811,8 @@ public final class ThreeValues {
     private static final class Embedding {
         private final int[] image = new int[MOST_INDIVIDUALS];
         private final int[] hits = new int[MOST_INDIVIDUALS];
-        private Structure inner = null;
-        private Structure outer = null;
+        private Structure inner = new Structure();
+        private Structure outer = new Structure();
 
         boolean exists(Structure s, Structure t) {
             inner = s;
@@ -1053,7 +1053,7 @@ public final class ThreeValues {
         /** Leaves each structure as the one in which each HALF has become 0, and adds the others. */
         private boolean focusAll(Edge edge) {
             // What is added on the way is focused in its turn.
-            for (int i = 0; i < work.count; i++) {
+            for (int i = 0; i < MOST_FOCUSED && i < work.count; i++) {
                 Structure s = work.all[i];
                 int pivot = edge.focus < FIRST_OF_TWO_PLACES ? 0 : pivotOf(s, edge.along);
                 for (int x = 0; x < s.individuals && pivot >= 0; x++) {

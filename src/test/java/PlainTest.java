@@ -231,8 +231,29 @@ final class PlainTest {
         }
     }
 
+    /** As much of all as there can be, and a little more. */
+    private void fillUp() {
+        while (plain.fs.size() < 40 && calls < 150) formula(upTo(9));
+        formula(upTo(9));
+        for (int i = upTo(8); i > 0; i--) rule();
+        for (int i = 6 + upTo(6); i > 0; i--) edge();
+        for (int i = upTo(20); i > 0; i--) change();
+    }
+
+    /** Many structures that differ a little, at one point. */
+    private void startMany() {
+        int point = upTo(4), s = upTo(4);
+        same("universe(" + s + ",1)", real.universe(s, 1), plain.universe(s, 1));
+        for (int i = 8 + upTo(16); i > 0; i--) {
+            put(s, upTo(8), 0, 0, upTo(3));
+            int n = same("start(" + point + "," + s + ")", real.start(point, s), plain.start(point, s));
+            if (n == -2) answers[10]++;
+        }
+    }
+
     private boolean holds() {
         int most = 1 + upTo(4);
+        boolean full = upTo(6) == 0;
         for (int s = 0; s < 4; s++) if (upTo(3) != 0) fill(s, most);
         formula(0);
         int count = 3 + upTo(14);
@@ -240,6 +261,8 @@ final class PlainTest {
         for (int i = upTo(4); i > 0; i--) rule();
         for (int i = upTo(5); i > 0; i--) edge();
         for (int i = upTo(8); i > 0; i--) change();
+        if (full) fillUp();
+        if (upTo(6) == 0) startMany();
         while (calls < CALLS - 40 && !wrong) anyCall();
         return !wrong;
     }
