@@ -33,6 +33,7 @@ final class RunBoundsTest {
         runAgain();
         recordedStays();
         orderByIndividuals();
+        orderAfterRun();
         orderByRow();
         recordedRange();
         showRange();
@@ -102,13 +103,19 @@ final class RunBoundsTest {
         story.still(1, "start(2, 0)");
     }
 
+    /** One that could be sharpened, and one that is impossible. */
     private static void startNotCoerced() {
-        Story story = small("not coerced", "rule(0, 2, 1)", "universe(0, 2)", "put(0, 2, 1, 0, 2)");
+        Story story = small("not coerced", "rule(0, 2, 1)", "universe(0, 1)", "put(0, 2, 0, 0, 2)");
         story.due(1, "start(0, 0)");
         story.make("show(0, 0, 1)");
+        story.due(2, "get(1, 2, 0, 0)");
+        story.make("universe(0, 2)", "put(0, 2, 1, 0, 2)");
+        story.due(2, "start(0, 0)");
+        story.make("show(0, 1, 1)");
         story.due(2, "size(1)");
         story.due(0, "get(1, 2, 0, 0)");
         story.due(2, "get(1, 2, 1, 0)");
+        story.still(2, "run()");
     }
 
     private static void startAlready() {
@@ -280,7 +287,8 @@ final class RunBoundsTest {
 
     private static void onlyStartedThen() {
         String[] calls = Story.with(VALUES, "edge(0, 1, 15, 0)", "edge(1, 2, 15, 0)", "universe(0, 6)", "put(0, 5, 1, 0, 1)",
-            "put(0, 5, 2, 0, 2)", "put(0, 4, 3, 0, 1)", "put(0, 3, 4, 0, 1)", "put(0, 2, 5, 0, 1)", "start(0, 0)", "start(3, 1)");
+            "put(0, 5, 2, 0, 2)", "put(0, 4, 3, 0, 1)", "put(0, 3, 4, 0, 1)", "put(0, 2, 5, 0, 1)", "start(0, 0)", "start(3, 1)",
+            "apply(0, 0)");
         Story story = new Story(check, "What is recorded is then only what was started, whatever was before.", calls);
         story.due(4, "run()");
         story.make("edge(2, 3, 271, 0)");
@@ -357,6 +365,21 @@ final class RunBoundsTest {
                 story.due(n, "size(2)");
             }
             story.due(7, "run()");
+        }
+    }
+
+    /** What the edges bring comes in the order HALF, 1, 0, and from two individuals to none. */
+    private static void orderAfterRun() {
+        Story story = small("The structures of a point are numbered in order", "edge(0, 3, 15, 0)", "change(0, 1, 2)",
+            "edge(0, 3, 15, 0)", "change(1, 1, 0)", "edge(0, 3, 15, 0)", "edge(1, 3, 15, 0)", "edge(2, 3, 15, 0)",
+            "universe(1, 2)", "put(1, 2, 1, 0, 1)", "start(0, 1)", "universe(1, 1)", "start(1, 1)", "start(2, 0)");
+        story.due(8, "run()");
+        story.due(5, "recorded(3)");
+        int[][] rows = {{0, 0}, {1, 0}, {2, 0}, {2, 1}, {2, 2}};
+        for (int i = 0; i < 5; i++) {
+            story.make("show(3, " + i + ", 2)");
+            story.due(rows[i][0], "size(2)");
+            story.due(rows[i][1], "get(2, 1, 0, 0)");
         }
     }
 

@@ -9,6 +9,11 @@ import java.util.List;
 final class Sight {
     private static final int MOST_CALLS = 512;
     private static final int SLOT_CALLS = 110;
+    /** There is never more to be seen than so many: looking ends even if the class is wrong. */
+    private static final int MOST_FORMULAS = 40;
+    private static final int MOST_PILED = 40;
+    private static final int MOST_RECORDED = 12;
+    private static final int MOST_EDGES = 8;
     private final List<Call> run;
     private final List<String> seen = new ArrayList<>();
     private ThreeValues x;
@@ -80,7 +85,7 @@ final class Sight {
     }
 
     private void lookAtSlot(int s) {
-        int n = ask("size(" + s + ")");
+        int n = Math.min(ask("size(" + s + ")"), 6);
         for (int p = 0; p < 9; p++) {
             for (int u = 0; u < (p < 2 ? 1 : n); u++) {
                 for (int w = p == 8 ? u : 0; w < (p < 6 ? 1 : p == 8 ? u + 1 : n); w++) {
@@ -98,9 +103,9 @@ final class Sight {
     }
 
     private void lookAtFormulas() {
-        haveRoom(41);
+        haveRoom(MOST_FORMULAS + 1);
         int free = ask("free(0)");
-        while (free >= 0) {
+        while (free >= 0 && formulas < MOST_FORMULAS) {
             closed = free == 0 && closed < 0 ? formulas : closed;
             formulas++;
             free = ask("free(" + formulas + ")");
@@ -124,7 +129,7 @@ final class Sight {
 
     private void lookAtPile() {
         haveRoom(SLOT_CALLS);
-        for (int i = 0; ask("pile(" + i + ", 0)") == 1; i++) {
+        for (int i = 0; ask("pile(" + i + ", 0)") == 1 && i < MOST_PILED; i++) {
             lookAtSlot(0);
             haveRoom(SLOT_CALLS);
         }
@@ -135,7 +140,7 @@ final class Sight {
         for (int point = 0; point < 4; point++) {
             haveRoom(SLOT_CALLS, from);
             ask("recorded(" + point + ")");
-            for (int i = 0; ask("show(" + point + ", " + i + ", 0)") == 1; i++) {
+            for (int i = 0; ask("show(" + point + ", " + i + ", 0)") == 1 && i < MOST_RECORDED; i++) {
                 lookAtSlot(0);
                 haveRoom(SLOT_CALLS, from);
             }
@@ -159,7 +164,7 @@ final class Sight {
     /** What the edges do, how many there are and how many changes they have. */
     private void lookAtEdges() {
         renew();
-        while (ask("apply(" + edges + ", 0)") != ThreeValues.BAD) {
+        while (ask("apply(" + edges + ", 0)") != ThreeValues.BAD && edges < MOST_EDGES) {
             edges++;
         }
         for (int e = 0; e < edges; e++) {
