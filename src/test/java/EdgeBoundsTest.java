@@ -364,13 +364,16 @@ final class EdgeBoundsTest {
         }
     }
 
-    /** All pairs have 1 or HALF, and none of six has q: nothing beyond the last is taken for an individual. */
+    /** All values are 1 or HALF, but q is 1 of none of six: nothing else is taken for an individual with q. */
     private static void noPivotOfSix() {
         for (int q = 2; q < 6; q++) {
             for (int p = 6; p < 8; p++) {
                 Story story = small("if there is none, nothing is to be done: of six", "edge(0, 0, " + (p + 16 * q) + ", 0)",
                     "universe(0, 6)");
                 for (int u = 0; u < 6; u++) {
+                    for (int other = 2; other < 6; other++) {
+                        story.make("put(0, " + other + ", " + u + ", 0, 2)");
+                    }
                     for (int w = 0; w < 6; w++) {
                         story.make("put(0, 6, " + u + ", " + w + ", " + (u + w == 0 ? 2 : 1) + ")",
                             "put(0, 7, " + u + ", " + w + ", 1)");
